@@ -277,6 +277,9 @@ public final class ChangesTest {
         post.advance(1);
         Due.is("11 thaws", 6, post.iceOf(0));
         Due.is("11 not below 0", 0, post.iceOf(1));
+        post.setTemperature(0);
+        post.advance(1);
+        Due.is("11 neither thaws nor freezes at 0 degrees", 6, post.iceOf(0));
         post.setTemperature(-30);
         post.advance(3);
         Due.is("11 freezes by 1", 9, post.iceOf(0));

@@ -140,6 +140,11 @@ public final class LettersTest {
             Due.fails("42 one more", ARGUMENT, () -> post.letterByCode(code + 1));
             Due.fails("42 the next valid one", ELEMENT, () -> post.letterByCode(code + 97));
         }
+        for (int id = 4; id < 12; id++) {
+            post.post(0, 6, 1, 1, 1);
+        }
+        Due.is("41 code of a later letter", 11641, post.codeOf(11));
+        Due.is("42 a later letter", 11, post.letterByCode(11641));
         Due.fails("42 valid but no letter", ELEMENT, () -> post.letterByCode(1));
         Due.fails("42 nought", ARGUMENT, () -> post.letterByCode(0));
         Due.fails("42 negative", ARGUMENT, () -> post.letterByCode(-96));

@@ -49,6 +49,9 @@ public final class ScriptTest {
         Due.is("55 loaded", "0:11/12@0#0#1", Posts.sledge(post, 0));
         Due.is("55 unload", 1, Posts.run(post, "unload 0 1"));
         Due.is("55 unloaded", "0:5/12@0#0", Posts.sledge(post, 0));
+        Due.is("55 another sledge", 3, Posts.run(post, "sledge 1 9;post 10 1 1 1;load 1 2"));
+        Due.is("55 unload it", 1, Posts.run(post, "unload 1 2"));
+        Due.is("55 where it was unloaded", 1, post.stationOfLetter(2));
         Due.is("55 best", 1, Posts.run(post, "best 0"));
         Due.is("55 loaded best", "0:11/12@0#0#1", Posts.sledge(post, 0));
         Due.is("55 go", 2, Posts.run(post, "go 01;heat 1"));
@@ -71,6 +74,11 @@ public final class ScriptTest {
         Due.is("55 wait 048", 1, Posts.run(post, "wait 048"));
         Due.is("55 wait 49", FAILED, Posts.run(post, "wait 49"));
         Due.is("55 wait 0", FAILED, Posts.run(post, "wait 0"));
+        Due.is("55 too long", FAILED, Posts.run(post, "road 01 21"));
+        Due.is("55 too small", FAILED, Posts.run(post, "sledge 0 4"));
+        Due.is("55 too heavy", FAILED, Posts.run(post, "post 01 10 1 1"));
+        Due.is("55 too dear", FAILED, Posts.run(post, "post 01 1 100 1"));
+        Due.is("55 too strong", FAILED, Posts.run(post, "post 01 1 1 100"));
         Due.is("55 no sledge 9", FAILED, Posts.run(post, "best 9"));
         Due.is("55 no letter 999", FAILED, Posts.run(post, "sledge 0 5;load 0 999"));
         Due.is("57 second command", 1, post.failedCommand());

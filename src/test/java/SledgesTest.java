@@ -87,6 +87,7 @@ public final class SledgesTest {
         post.addSledge(1, 5);
         bothFees("nothing waits", 0, post, 0);
         post.post(0, 1, 9, 60, 1);
+        bothFees("only one", 60, post, 0);
         post.post(0, 1, 5, 40, 1);
         post.post(0, 1, 5, 30, 1);
         post.post(1, 0, 5, 99, 1);
@@ -136,6 +137,13 @@ public final class SledgesTest {
         post.setRoad(0, 4, 1);
         post.load(0, 3);
         bothTrips("with it again", 16, post, 0);
+        post.setRoad(0, 1, 0);
+        post.setRoad(0, 3, 0);
+        bothTrips("the first one not connected", ELEMENT.getSimpleName(), post, 0);
+        post.unload(0, 3);
+        bothTrips("nor is it now", ELEMENT.getSimpleName(), post, 0);
+        post.unload(0, 0);
+        bothTrips("without the first one", 14, post, 0);
     }
 
     private static void tripsOfTravellers() {
@@ -169,5 +177,23 @@ public final class SledgesTest {
         bothTrips("a star", 12, post, 0);
         post.send(0, 6);
         bothTrips("to a goal", 12, post, 0);
+        ringFrom(3);
+        ringFrom(6);
+    }
+
+    private static void ringFrom(int home) {
+        SledgePost post = Posts.withStations(7);
+        int[] order = {0, 4, 2, 6, 1, 5, 3};
+        for (int i = 0; i < 7; i++) {
+            post.setRoad(order[i], order[(i + 1) % 7], 10 + i);
+        }
+        post.addSledge(home, 30);
+        for (int goal = 0; goal < 7; goal++) {
+            if (goal != home) {
+                post.post(home, goal, 1, 1, 1);
+            }
+        }
+        post.loadBest(0);
+        bothTrips("the ring from " + home, 91, post, 0);
     }
 }

@@ -7,6 +7,7 @@ public final class TotalsTest {
         coins();
         means();
         consistency();
+        fullSledge();
         Due.end();
     }
 
@@ -101,5 +102,13 @@ public final class TotalsTest {
         post.setRoad(0, 1, 0);
         post.advance(10);
         Due.is("50 later", true, post.isConsistent());
+    }
+
+    private static void fullSledge() {
+        SledgePost post = Posts.withStations(2);
+        post.addSledge(0, 9);
+        post.post(0, 1, 9, 1, 1);
+        post.load(0, 0);
+        Due.is("50 full, and no way for it", true, post.isConsistent());
     }
 }

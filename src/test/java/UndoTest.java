@@ -14,6 +14,7 @@ public final class UndoTest {
         sameStateIsAChange();
         scripts();
         snapshots();
+        otherThingsAtTheSameIndex();
         Due.end();
     }
 
@@ -155,5 +156,36 @@ public final class UndoTest {
         post.save();
         post.undo();
         Due.is("58 undo leaves the snapshot", 3, post.restore());
+    }
+
+    /** What was made after an undo leaves nothing behind in what the snapshot brings back. */
+    private static void otherThingsAtTheSameIndex() {
+        SledgePost post = Posts.inARow();
+        post.addSledge(0, 9);
+        post.post(0, 1, 2, 10, 5);
+        post.save();
+        String saved = Posts.picture(post);
+        post.undo();
+        post.undo();
+        String empty = Posts.picture(post);
+        post.addSledge(2, 30);
+        post.post(2, 3, 9, 99, 98);
+        post.load(0, 0);
+        post.send(0, 0);
+        post.restore();
+        Due.is("60 the sledge and the letter as saved", saved, Posts.picture(post));
+
+        SledgePost other = Posts.inARow();
+        other.save();
+        other.addSledge(0, 9);
+        other.post(0, 1, 2, 10, 5);
+        other.load(0, 0);
+        other.send(0, 3);
+        other.restore();
+        Due.is("60 empty again", empty, Posts.picture(other));
+        other.addSledge(1, 10);
+        other.post(1, 0, 1, 1, 1);
+        Due.is("4 a new sledge stands", "0:0/10@1", Posts.sledge(other, 0));
+        Due.is("5 a new letter waits", 1, other.stationOfLetter(0));
     }
 }
