@@ -1,15 +1,29 @@
+import java.util.NoSuchElementException;
 import java.util.Objects;
 
 /** Compares answers with what is due, prints every difference, and ends a test. */
 final class Due {
+    static final Class<IndexOutOfBoundsException> INDEX = IndexOutOfBoundsException.class;
+    static final Class<IllegalArgumentException> ARGUMENT = IllegalArgumentException.class;
+    static final Class<IllegalStateException> STATE = IllegalStateException.class;
+    static final Class<NoSuchElementException> ELEMENT = NoSuchElementException.class;
+    static final Class<UnsupportedOperationException> UNSUPPORTED = UnsupportedOperationException.class;
+    static final Class<ArithmeticException> ARITHMETIC = ArithmeticException.class;
+
     interface Call {
         Object answer();
     }
 
+    private static String about = "";
     private static int checks;
     private static int wrong;
 
     private Due() {
+    }
+
+    /** What the checks from here on are about; it is printed ahead of every difference. */
+    static void about(String text) {
+        about = text;
     }
 
     /** The answer must equal the due one; a number must also have the type of the due one. */
@@ -17,7 +31,7 @@ final class Due {
         checks++;
         if (!Objects.equals(due, got)) {
             wrong++;
-            System.out.println(what + ": answered " + got + ", due is " + due);
+            System.out.println(about + what + ": answered " + got + ", due is " + due);
         }
     }
 
@@ -33,6 +47,10 @@ final class Due {
         } catch (RuntimeException e) {
             return e.getClass().getSimpleName();
         }
+    }
+
+    static int checksSoFar() {
+        return checks;
     }
 
     static int wrongSoFar() {

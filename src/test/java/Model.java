@@ -573,7 +573,7 @@ public final class Model {
     }
 
     /** The first prefix that no script begins with ends behind the error position. */
-    private static int errorIn(String text) {
+    static int errorIn(String text) {
         for (int length = 1; length <= text.length(); length++) {
             Matcher matcher = SCRIPT.matcher(text.substring(0, length));
             if (!matcher.matches() && !matcher.hitEnd()) {

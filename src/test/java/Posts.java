@@ -68,4 +68,41 @@ final class Posts {
         }
         return text.toString();
     }
+
+    /** What undo and the snapshot do not cover: the output text, the positions, the length of the buffer. */
+    static String texts(SledgePost post) {
+        StringBuilder text = new StringBuilder();
+        for (int i = 0; Due.outcome(charAt(post, i)) instanceof Character sign; i++) {
+            text.append(sign);
+        }
+        text.append(" error ").append(Due.outcome(post::errorPosition));
+        text.append(" failed ").append(Due.outcome(post::failedCommand));
+        text.append(" typed ").append(Due.outcome(() -> post.type(' ')));
+        return text.toString();
+    }
+
+    private static Due.Call charAt(SledgePost post, int index) {
+        return () -> post.outputAt(index);
+    }
+
+    /** What can be undone, and what the snapshot holds. */
+    static String history(SledgePost post) {
+        StringBuilder text = new StringBuilder();
+        Object left = Due.outcome(post::undo);
+        while (left instanceof Integer) {
+            text.append(left).append(':').append(brief(post)).append(' ');
+            left = Due.outcome(post::undo);
+        }
+        text.append(left).append(" snapshot ").append(Due.outcome(post::restore));
+        return text.append(' ').append(picture(post)).toString();
+    }
+
+    private static String brief(SledgePost post) {
+        return post.stationCount() + "," + post.sledgeCount() + "," + post.letterCount() + "," + post.time() + ","
+                + post.temperature() + "," + post.coins() + "," + post.deliveredTotal();
+    }
+
+    static Object nextId(SledgePost post) {
+        return Due.outcome(() -> post.post(0, 1, 1, 1, 1));
+    }
 }

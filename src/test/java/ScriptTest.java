@@ -85,7 +85,9 @@ public final class ScriptTest {
         Due.is("55 nothing took effect", 0, post.sledgeCount());
     }
 
-    private static void wrongForm(SledgePost post, String script, int position) {
+    private static void wrongForm(String script, int position) {
+        SledgePost post = Posts.inARow();
+        post.addSledge(0, 9);
         String before = Posts.picture(post);
         Due.is("55 '" + script + "'", WRONG_FORM, Posts.run(post, script));
         Due.is("56 '" + script + "'", position, post.errorPosition());
@@ -93,62 +95,60 @@ public final class ScriptTest {
     }
 
     private static void wrongForms() {
-        SledgePost post = Posts.inARow();
-        post.addSledge(0, 9);
-        Due.fails("56 none yet", ELEMENT, post::errorPosition);
-        wrongForm(post, "", 0);
-        wrongForm(post, " station", 0);
-        wrongForm(post, "Station", 0);
-        wrongForm(post, ";", 0);
-        wrongForm(post, "s", 1);
-        wrongForm(post, "sx", 1);
-        wrongForm(post, "sta", 3);
-        wrongForm(post, "stl", 2);
-        wrongForm(post, "slt", 2);
-        wrongForm(post, "station ", 7);
-        wrongForm(post, "station;", 8);
-        wrongForm(post, "station;;", 8);
-        wrongForm(post, "station; station", 8);
-        wrongForm(post, "stationstation", 7);
-        wrongForm(post, "road", 4);
-        wrongForm(post, "road0", 4);
-        wrongForm(post, "road ", 5);
-        wrongForm(post, "road 0", 6);
-        wrongForm(post, "road 0 1 5", 6);
-        wrongForm(post, "road 012", 7);
-        wrongForm(post, "road 01 ", 8);
-        wrongForm(post, "road 01  5", 8);
-        wrongForm(post, "road 01 -5", 8);
-        wrongForm(post, "road 01 1234", 11);
-        wrongForm(post, "road 01 12 ", 10);
-        wrongForm(post, "sledge 10 5", 8);
-        wrongForm(post, "sledge 1", 8);
-        wrongForm(post, "sledge 1 /", 9);
-        wrongForm(post, "sledge 1 :", 9);
-        wrongForm(post, "post 01 1 1", 11);
-        wrongForm(post, "post 01 1 1;", 11);
-        wrongForm(post, "post 01 1 1 1 1", 13);
-        wrongForm(post, "load 0", 6);
-        wrongForm(post, "load 0 a", 7);
-        wrongForm(post, "unload 00", 8);
-        wrongForm(post, "unlaod 0 0", 3);
-        wrongForm(post, "best 00", 6);
-        wrongForm(post, "best", 4);
-        wrongForm(post, "go 0", 4);
-        wrongForm(post, "go 012", 5);
-        wrongForm(post, "heat", 4);
-        wrongForm(post, "heat -", 6);
-        wrongForm(post, "heat --1", 6);
-        wrongForm(post, "heat +1", 5);
-        wrongForm(post, "heat - 1", 6);
-        wrongForm(post, "heat 1-", 6);
-        wrongForm(post, "wait ", 5);
-        wrongForm(post, "wait ;wait", 5);
-        wrongForm(post, "wait1", 4);
-        wrongForm(post, "wait 1234", 8);
-        wrongForm(post, "wait -1", 5);
-        wrongForm(post, "wait 1;waix", 10);
-        wrongForm(post, "station;road 01 2;heat 3;h", 26);
+        Due.fails("56 none yet", ELEMENT, new SledgePost()::errorPosition);
+        wrongForm("", 0);
+        wrongForm(" station", 0);
+        wrongForm("Station", 0);
+        wrongForm(";", 0);
+        wrongForm("s", 1);
+        wrongForm("sx", 1);
+        wrongForm("sta", 3);
+        wrongForm("stl", 2);
+        wrongForm("slt", 2);
+        wrongForm("station ", 7);
+        wrongForm("station;", 8);
+        wrongForm("station;;", 8);
+        wrongForm("station; station", 8);
+        wrongForm("stationstation", 7);
+        wrongForm("road", 4);
+        wrongForm("road0", 4);
+        wrongForm("road ", 5);
+        wrongForm("road 0", 6);
+        wrongForm("road 0 1 5", 6);
+        wrongForm("road 012", 7);
+        wrongForm("road 01 ", 8);
+        wrongForm("road 01  5", 8);
+        wrongForm("road 01 -5", 8);
+        wrongForm("road 01 1234", 11);
+        wrongForm("road 01 12 ", 10);
+        wrongForm("sledge 10 5", 8);
+        wrongForm("sledge 1", 8);
+        wrongForm("sledge 1 /", 9);
+        wrongForm("sledge 1 :", 9);
+        wrongForm("post 01 1 1", 11);
+        wrongForm("post 01 1 1;", 11);
+        wrongForm("post 01 1 1 1 1", 13);
+        wrongForm("load 0", 6);
+        wrongForm("load 0 a", 7);
+        wrongForm("unload 00", 8);
+        wrongForm("unlaod 0 0", 3);
+        wrongForm("best 00", 6);
+        wrongForm("best", 4);
+        wrongForm("go 0", 4);
+        wrongForm("go 012", 5);
+        wrongForm("heat", 4);
+        wrongForm("heat -", 6);
+        wrongForm("heat --1", 6);
+        wrongForm("heat +1", 5);
+        wrongForm("heat - 1", 6);
+        wrongForm("heat 1-", 6);
+        wrongForm("wait ", 5);
+        wrongForm("wait ;wait", 5);
+        wrongForm("wait1", 4);
+        wrongForm("wait 1234", 8);
+        wrongForm("wait -1", 5);
+        wrongForm("wait 1;waix", 10);
+        wrongForm("station;road 01 2;heat 3;h", 26);
     }
 
     private static void failures() {

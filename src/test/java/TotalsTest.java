@@ -70,13 +70,8 @@ public final class TotalsTest {
         Due.is("49 all", 1.0f, post.openShare());
     }
 
-    private static void consistency() {
-        SledgePost post = new SledgePost();
-        Due.is("50 new", true, post.isConsistent());
-        for (int i = 0; i < 7; i++) {
-            post.addStation();
-        }
-        Due.is("50 without roads", true, post.isConsistent());
+    private static SledgePost withLoops() {
+        SledgePost post = Posts.withStations(7);
         for (int i = 0; i < 6; i++) {
             post.setRoad(i, (i * 3 + 1) % 6 == i ? 6 : (i * 3 + 1) % 6, i + 3);
         }
@@ -86,22 +81,28 @@ public final class TotalsTest {
         for (int i = 0; i < 12; i++) {
             post.post(i % 3, 3 + i % 4, 1 + i % 9, 7 * i, 1 + i);
         }
+        return post;
+    }
+
+    private static void consistency() {
+        Due.is("50 new", true, new SledgePost().isConsistent());
+        Due.is("50 without roads", true, Posts.withStations(7).isConsistent());
+        SledgePost post = withLoops();
         Due.is("50 waiting", true, post.isConsistent());
-        String before = Posts.picture(post);
-        post.isConsistent();
-        Due.is("50 changes nothing", before, Posts.picture(post));
+        Due.is("50 changes nothing", Posts.picture(withLoops()), Posts.picture(post));
+        SledgePost sent = withLoops();
         for (int i = 0; i < 3; i++) {
-            post.loadBest(i);
+            sent.loadBest(i);
         }
-        Due.is("50 loaded", true, post.isConsistent());
+        Due.is("50 loaded", true, sent.isConsistent());
         for (int i = 0; i < 3; i++) {
             int sledge = i;
-            Due.outcome(() -> post.send(sledge, 4));
+            Due.outcome(() -> sent.send(sledge, 4));
         }
-        Due.is("50 sent", true, post.isConsistent());
-        post.setRoad(0, 1, 0);
-        post.advance(10);
-        Due.is("50 later", true, post.isConsistent());
+        Due.is("50 sent", true, sent.isConsistent());
+        sent.setRoad(0, 1, 0);
+        sent.advance(10);
+        Due.is("50 later", true, sent.isConsistent());
     }
 
     private static void fullSledge() {
