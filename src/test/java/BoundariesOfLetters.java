@@ -38,7 +38,8 @@ final class BoundariesOfLetters {
                 BoundariesOfLetters::noRank,
                 BoundariesOfLetters::leastAndGreatestCodes,
                 BoundariesOfLetters::remainderOne,
-                BoundariesOfLetters::negativeOrNotValid,
+                BoundariesOfLetters::negative,
+                BoundariesOfLetters::notValid,
                 BoundariesOfLetters::validWithoutLetter);
     }
 
@@ -311,12 +312,20 @@ final class BoundariesOfLetters {
         }
     }
 
-    private static void negativeOrNotValid() {
-        Sentence.of(42, "Throws `IllegalArgumentException` if the number is negative or not a valid code");
-        // -96 - 97 * k would leave 1 if remainders were never negative; 96 and 97 leave 96 and 0.
-        int[] wrong = {-1, -96, -193, Integer.MIN_VALUE, -2147483646, 0, 2, 96, 97, 99, 100, 194, 196, Integer.MAX_VALUE};
-        Refusal.ofEach("code", Due.ARGUMENT, Scenes::busy, wrong, SledgePost::letterByCode);
-        Refusal.ofEach("code", Due.ARGUMENT, Scenes::fresh, wrong, SledgePost::letterByCode);
+    private static void negative() {
+        Sentence.of(42, "Throws `IllegalArgumentException` if the number is negative");
+        // -96, -193 and -2147483581 would leave 1 if remainders were never negative.
+        int[] wrong = {-1, -96, -98, -193, -195, -2147483581, Integer.MIN_VALUE};
+        Due.is("as if valid", 1, Math.floorMod(-2147483581, 97));
+        Refusal.ofEach("number", Due.ARGUMENT, Scenes::busy, wrong, SledgePost::letterByCode);
+        Refusal.ofEach("number", Due.ARGUMENT, Scenes::fresh, wrong, SledgePost::letterByCode);
+    }
+
+    private static void notValid() {
+        Sentence.of(42, "or not a valid code");
+        int[] wrong = {0, 2, 96, 97, 99, 100, 194, 196, Integer.MAX_VALUE};
+        Refusal.ofEach("number", Due.ARGUMENT, Scenes::busy, wrong, SledgePost::letterByCode);
+        Refusal.ofEach("number", Due.ARGUMENT, Scenes::fresh, wrong, SledgePost::letterByCode);
     }
 
     private static void validWithoutLetter() {

@@ -1,7 +1,5 @@
 /** Boundary sentences of the promises 1 to 5: a new object, stations, roads, sledges and letters. */
 final class BoundariesOfMaking {
-    private static final String IN_ORDER = "If several exceptions apply, the one that is listed first is thrown.";
-
     private BoundariesOfMaking() {
     }
 
@@ -92,6 +90,16 @@ final class BoundariesOfMaking {
         again.undo();
         Due.is("added again", 1, again.addStation());
         Due.is("without the road that was undone", 0, again.road(0, 1));
+        SledgePost restored = new SledgePost();
+        restored.save();
+        Posts.run(restored, "station;station;road 01 9");
+        restored.restore();
+        Posts.run(restored, "station;station");
+        Due.is("without the road from before the snapshot came back", 0, restored.road(0, 1));
+        SledgePost failed = new SledgePost();
+        Posts.run(failed, "station;station;road 01 9;best 0");
+        Posts.run(failed, "station;station");
+        Due.is("without the road of a script that failed", 0, failed.road(1, 0));
     }
 
     private static void seventhStation() {
@@ -185,7 +193,7 @@ final class BoundariesOfMaking {
     }
 
     private static void orderForRoads() {
-        Sentence.ofTerms(3, IN_ORDER);
+        Sentence.ofTerms(3, Refusal.IN_ORDER);
         Refusal.of("no station, and the same", Due.INDEX, Scenes::busy, post -> post.setRoad(5, 5, 5));
         Refusal.of("negative, and the same", Due.INDEX, Scenes::busy, post -> post.setRoad(-1, -1, 5));
         Refusal.of("no station, and too long", Due.INDEX, Scenes::busy, post -> post.setRoad(0, 5, 21));
@@ -211,6 +219,17 @@ final class BoundariesOfMaking {
         }
         again.addSledge(4, 5);
         Due.is("where one was undone", "0:0/5@4", Posts.sledge(again, 0));
+        SledgePost failed = Posts.inARow();
+        Posts.run(failed, "sledge 0 30;post 01 3 1 1;load 0 0;go 03;best 0");
+        failed.addSledge(4, 5);
+        Due.is("where one came and went in a script that failed", "0:0/5@4", Posts.sledge(failed, 0));
+        SledgePost restored = Posts.inARow();
+        restored.save();
+        restored.addSledge(0, 30);
+        restored.send(0, 3);
+        restored.restore();
+        restored.addSledge(4, 5);
+        Due.is("where one was before the snapshot came back", "0:0/5@4", Posts.sledge(restored, 0));
     }
 
     private static void numbersOfSledges() {
@@ -278,7 +297,7 @@ final class BoundariesOfMaking {
     }
 
     private static void orderForSledges() {
-        Sentence.ofTerms(4, IN_ORDER);
+        Sentence.ofTerms(4, Refusal.IN_ORDER);
         Refusal.of("no station, and too small", Due.INDEX, Scenes::busy, post -> post.addSledge(5, 4));
         Refusal.of("no station, and too many", Due.INDEX, Scenes::full, post -> post.addSledge(7, 10));
         Refusal.of("too large, and too many", Due.ARGUMENT, Scenes::full, post -> post.addSledge(0, 31));
@@ -403,7 +422,7 @@ final class BoundariesOfMaking {
     }
 
     private static void orderForLetters() {
-        Sentence.ofTerms(5, IN_ORDER);
+        Sentence.ofTerms(5, Refusal.IN_ORDER);
         Refusal.of("no station, and the same", Due.INDEX, Scenes::busy, post -> post.post(5, 5, 1, 1, 1));
         Refusal.of("no station, and too light", Due.INDEX, Scenes::busy, post -> post.post(0, 5, 0, 1, 1));
         Refusal.of("no station, and too many", Due.INDEX, Scenes::full, post -> post.post(7, 0, 1, 1, 1));

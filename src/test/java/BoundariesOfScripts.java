@@ -2,9 +2,6 @@
 final class BoundariesOfScripts {
     private static final String WRONG_FORM = Due.ARGUMENT.getSimpleName();
     private static final String FAILED = Due.STATE.getSimpleName();
-    private static final String IN_ORDER = "If several exceptions apply, the one that is listed first is thrown.";
-    private static final String NO_TRACE =
-            "A method that throws an exception changes nothing unless its description says otherwise.";
 
     private BoundariesOfScripts() {
     }
@@ -84,7 +81,7 @@ final class BoundariesOfScripts {
     }
 
     private static void orderForTyping() {
-        Sentence.ofTerms(54, IN_ORDER);
+        Sentence.ofTerms(54, Refusal.IN_ORDER);
         Refusal.of("no character, and full", Due.ARGUMENT, BoundariesOfScripts::filled, post -> post.type((char) 127));
         Refusal.of("too small, and full", Due.ARGUMENT, BoundariesOfScripts::filled, post -> post.type((char) 31));
     }
@@ -218,7 +215,7 @@ final class BoundariesOfScripts {
     }
 
     private static void refusedScriptsLeaveTheRest() {
-        Sentence.ofTerms(55, NO_TRACE);
+        Sentence.ofTerms(55, Refusal.NO_TRACE);
         SledgePost post = Scenes.busy();
         Due.is("a wrong form", WRONG_FORM, Due.outcome(post::runScript));
         Due.is("but for its error position", "2>3 7g25c25/30 error 3 failed 1 typed 1", Posts.texts(post));
@@ -231,7 +228,7 @@ final class BoundariesOfScripts {
     }
 
     private static void orderForRunning() {
-        Sentence.ofTerms(55, IN_ORDER);
+        Sentence.ofTerms(55, Refusal.IN_ORDER);
         wrong("best 9;x", 7);
         wrong("heat 99;wait;heat", 17);
         failing("heat 99;best 9", 0);
@@ -250,9 +247,10 @@ final class BoundariesOfScripts {
 
     private static void repetitionsAndOptions() {
         Sentence.ofTerms(55, "braces mean zero or more repetitions, brackets an optional part, and a bar an alternative.");
-        String[] good = {"station", "road 01 0", "road 01 00", "road 01 020", "sledge 0 5", "sledge 0 05", "sledge 0 030",
-            "post 01 1 0 1", "post 01 001 000 099", "load 0 0", "load 0 000", "best 0", "go 01", "heat 0", "heat -0", "heat -00",
-            "heat 010", "heat -030", "wait", "wait 1", "wait 01", "wait 048", "station;wait;wait 48", "load 0 0;unload 0 00"};
+        String[] good = {"station", "road 01 0", "road 01 00", "road 01 020", "sledge 0 5", "sledge 0 05",
+            "sledge 0 030", "post 01 1 0 1", "post 01 001 000 099", "load 0 0", "load 0 000", "best 0", "go 01",
+            "heat 0", "heat -0", "heat -00", "heat 010", "heat -030", "wait", "wait 1", "wait 01", "wait 048",
+            "station;wait;wait 48", "load 0 0;unload 0 00"};
         for (String script : good) {
             int commands = script.split(";").length;
             Due.is("'" + script + "'", commands, Due.outcome(typed(script)::runScript));
@@ -316,9 +314,10 @@ final class BoundariesOfScripts {
 
     private static void endTooEarly() {
         Sentence.ofTerms(56, "or the length of the script if every character can and the end comes too early.");
-        String[] scripts = {"", "s", "statio", "road", "road ", "road 1", "road 12", "road 12 ", "sledge", "sledge ", "sledge 1",
-            "sledge 1 ", "post 12 3 4", "post 12 3 4 ", "post 12 3 456", "load 1", "load 1 ", "unload 1 ", "un", "best", "best ",
-            "go", "go ", "go 1", "heat", "heat ", "heat -", "wai", "wait ", "wait;", "wait 1;", "wait;wait;w", "station;heat -"};
+        String[] scripts = {"", "s", "statio", "road", "road ", "road 1", "road 12", "road 12 ", "sledge", "sledge ",
+            "sledge 1", "sledge 1 ", "post 12 3 4", "post 12 3 4 ", "post 12 3 456", "load 1", "load 1 ", "unload 1 ",
+            "un", "best", "best ", "go", "go ", "go 1", "heat", "heat ", "heat -", "wai", "wait ", "wait;", "wait 1;",
+            "wait;wait;w", "station;heat -"};
         for (String script : scripts) {
             SledgePost post = new SledgePost();
             Due.is("'" + script + "'", WRONG_FORM, Posts.run(post, script));

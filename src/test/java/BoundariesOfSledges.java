@@ -4,7 +4,6 @@ final class BoundariesOfSledges {
     private static final String TRAVELS = "Throws `IllegalStateException` if the sledge travels";
     private static final String NO_TRIP =
             "Throws `NoSuchElementException` if a destination is not connected with its station";
-    private static final String IN_ORDER = "If several exceptions apply, the one that is listed first is thrown.";
 
     private BoundariesOfSledges() {
     }
@@ -178,7 +177,7 @@ final class BoundariesOfSledges {
     }
 
     private static void orderForPositions() {
-        Sentence.ofTerms(25, IN_ORDER);
+        Sentence.ofTerms(25, Refusal.IN_ORDER);
         Refusal.of("neither sledge nor position", Due.INDEX, Scenes::busy, post -> post.letterOn(2, 9));
         Refusal.of("negative both", Due.INDEX, Scenes::busy, post -> post.letterOn(-1, -1));
         Refusal.of("in a new post", Due.INDEX, Scenes::fresh, post -> post.letterOn(0, -1));
@@ -307,6 +306,22 @@ final class BoundariesOfSledges {
         return post;
     }
 
+    /** Every station is 20 hours from every other one; the sledge has one letter, or none if it is there already. */
+    private static SledgePost oneLetter(int home, int goal) {
+        SledgePost post = Posts.withStations(7);
+        for (int first = 0; first < 7; first++) {
+            for (int second = 0; second < first; second++) {
+                post.setRoad(first, second, 20);
+            }
+        }
+        post.addSledge(home, 5);
+        if (goal != home) {
+            post.post(home, goal, 5, 1, 1);
+            post.load(0, 0);
+        }
+        return post;
+    }
+
     private static void longestTrip(int promise, Refusal.ActWith question) {
         Sentence.ofTerms(promise, "and visits the destinations of all letters on it, in the order that makes the sum");
         SledgePost post = Posts.withStations(7);
@@ -320,6 +335,10 @@ final class BoundariesOfSledges {
         }
         post.loadBest(0);
         Due.is("to the end and back", 240, question.on(post, 0));
+        for (int goal = 0; goal < 7; goal++) {
+            Due.is("from 3 to " + goal + " alone", goal == 3 ? 0 : 40, question.on(oneLetter(3, goal), 0));
+            Due.is("from 0 to " + goal + " alone", goal == 0 ? 0 : 40, question.on(oneLetter(0, goal), 0));
+        }
         post.setRoad(4, 3, 20);
         Due.is("in a ring", 140, question.on(post, 0));
         post.setRoad(6, 4, 1);

@@ -3,7 +3,6 @@ final class BoundariesOfStations {
     private static final String NO_STATION =
             "Throws `IndexOutOfBoundsException` if there is no such station, for either argument";
     private static final String NOT_CONNECTED = "Throws `NoSuchElementException` if they are not connected";
-    private static final String IN_ORDER = "If several exceptions apply, the one that is listed first is thrown.";
 
     private interface Question {
         Object of(SledgePost post, int first, int second);
@@ -106,6 +105,7 @@ final class BoundariesOfStations {
             bothWays("the same", 0, post, i, i);
         }
         bothWays("the nearest", 3, post, 2, 3);
+        bothWays("the only one", 0, Posts.withStations(1), 0, 0);
     }
 
     private static void longestWay() {
@@ -153,7 +153,7 @@ final class BoundariesOfStations {
     }
 
     private static void order(int promise, Question question) {
-        Sentence.ofTerms(promise, IN_ORDER);
+        Sentence.ofTerms(promise, Refusal.IN_ORDER);
         Refusal.of("no station, to which no road leads", Due.INDEX, Scenes::busy, post -> question.of(post, 4, 5));
         Refusal.of("no station, from which no road leads", Due.INDEX, Scenes::busy, post -> question.of(post, -1, 4));
     }

@@ -198,7 +198,8 @@ final class BoundariesOfTotals {
     }
 
     private static void sledgeThatTravelsOrStands() {
-        Sentence.of(51, "\"@\" and its station or \">\", its station, \"+\" and the hours left if it travels, and \"#\" and the id");
+        Sentence.of(51, "\"@\" and its station or \">\", its station, \"+\" and the hours left if it travels, "
+                + "and \"#\" and the id");
         SledgePost post = Scenes.full();
         Due.is("stands", "0:4/10@0#0", Posts.sledge(post, 0));
         Due.is("travels", "1:9/30>1+5#4", Posts.sledge(post, 1));

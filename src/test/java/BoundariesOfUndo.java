@@ -87,13 +87,10 @@ final class BoundariesOfUndo {
 
     private static void latestEight() {
         Sentence.ofTerms(58, "The latest 8 changes can be undone");
-        undoesAll("one", advanced(1), 1);
-        undoesAll("seven", advanced(7), 7);
-        undoesAll("eight", advanced(8), 8);
-        undoesAll("nine", advanced(9), 8);
-        undoesAll("sixteen", advanced(16), 8);
-        undoesAll("seventeen", advanced(17), 8);
-        undoesAll("five hundred", advanced(480), 8);
+        for (int changes = 1; changes <= 70; changes++) {
+            undoesAll(changes + " changes", advanced(changes), Math.min(8, changes));
+        }
+        undoesAll("480 changes", advanced(480), 8);
     }
 
     /** Changes and undos in all mixtures, so that the earlier states wrap around where they are kept. */
@@ -300,8 +297,8 @@ final class BoundariesOfUndo {
             return post;
         };
         SledgePost post = scene.get();
-        while (Due.outcome(post::undo) instanceof Integer) {
-            Due.is("undone", true, post.time() <= 8);
+        for (int left = 7; left >= 0; left--) {
+            Due.is("left", left, Due.outcome(post::undo));
         }
         Due.is("the texts stay", "0:0/30@1 error 7 failed 2 typed 5", Posts.texts(post));
     }

@@ -1,6 +1,5 @@
 /** Boundary sentences of the promises 6 to 9: loading, unloading and sending. */
 final class BoundariesOfWork {
-    private static final String IN_ORDER = "If several exceptions apply, the one that is listed first is thrown.";
     private static final String NO_SLEDGE = "Throws `IndexOutOfBoundsException` if there is no such sledge";
     private static final String NO_LETTER = "Throws `NoSuchElementException` if there is no such letter in the post";
     // The letter 3 is delivered, the next one would be 6.
@@ -116,7 +115,7 @@ final class BoundariesOfWork {
     }
 
     private static void orderForLoad() {
-        Sentence.ofTerms(6, IN_ORDER);
+        Sentence.ofTerms(6, Refusal.IN_ORDER);
         Refusal.of("neither sledge nor letter", Due.INDEX, Scenes::busy, post -> post.load(2, 6));
         Refusal.of("no sledge, and a heavy letter", Due.INDEX, Scenes::busy, post -> post.load(-1, 2));
         Refusal.of("no letter, and it travels", Due.ELEMENT, Scenes::busy, post -> post.load(1, 6));
@@ -179,10 +178,13 @@ final class BoundariesOfWork {
         Due.is("waits here", 0, post.stationOfLetter(0));
         Due.is("one more waits", waiting + 1, post.waitingIn(0));
         Due.is("and can be loaded", 4, post.load(2, 0));
+        post.advance(5);
+        Due.is("the only one, elsewhere", 0, post.unload(1, 4));
+        Due.is("waits there, and not where it was loaded", 1, post.stationOfLetter(4));
     }
 
     private static void orderForUnload() {
-        Sentence.ofTerms(7, IN_ORDER);
+        Sentence.ofTerms(7, Refusal.IN_ORDER);
         Refusal.of("neither sledge nor letter", Due.INDEX, Scenes::busy, post -> post.unload(2, 6));
         Refusal.of("no sledge, and the letter waits", Due.INDEX, Scenes::busy, post -> post.unload(-1, 1));
         Refusal.of("no letter, and it travels", Due.ELEMENT, Scenes::busy, post -> post.unload(1, 3));
@@ -391,7 +393,7 @@ final class BoundariesOfWork {
     }
 
     private static void orderForSend() {
-        Sentence.ofTerms(9, IN_ORDER);
+        Sentence.ofTerms(9, Refusal.IN_ORDER);
         Refusal.of("neither sledge nor station", Due.INDEX, Scenes::busy, post -> post.send(2, 5));
         Refusal.of("no station, and it travels", Due.INDEX, Scenes::busy, post -> post.send(1, 5));
         Refusal.of("it travels, and there is no way", Due.STATE, Scenes::busy, post -> post.send(1, 4));

@@ -72,7 +72,7 @@ final class Posts {
     /** What undo and the snapshot do not cover: the output text, the positions, the length of the buffer. */
     static String texts(SledgePost post) {
         StringBuilder text = new StringBuilder();
-        for (int i = 0; Due.outcome(charAt(post, i)) instanceof Character sign; i++) {
+        for (int i = 0; i < 100 && Due.outcome(charAt(post, i)) instanceof Character sign; i++) {
             text.append(sign);
         }
         text.append(" error ").append(Due.outcome(post::errorPosition));
@@ -88,12 +88,11 @@ final class Posts {
     /** What can be undone, and what the snapshot holds. */
     static String history(SledgePost post) {
         StringBuilder text = new StringBuilder();
-        Object left = Due.outcome(post::undo);
-        while (left instanceof Integer) {
-            text.append(left).append(':').append(brief(post)).append(' ');
-            left = Due.outcome(post::undo);
+        // Once more than what can be undone, so that the refusal is seen too.
+        for (int i = 0; i < 9; i++) {
+            text.append(Due.outcome(post::undo)).append(':').append(brief(post)).append(' ');
         }
-        text.append(left).append(" snapshot ").append(Due.outcome(post::restore));
+        text.append(" snapshot ").append(Due.outcome(post::restore));
         return text.append(' ').append(picture(post)).toString();
     }
 

@@ -10,6 +10,10 @@ final class Refusal {
         Object on(SledgePost post, int value);
     }
 
+    static final String IN_ORDER = "If several exceptions apply, the one that is listed first is thrown.";
+    static final String NO_TRACE =
+            "A method that throws an exception changes nothing unless its description says otherwise.";
+
     private Refusal() {
     }
 
@@ -17,12 +21,15 @@ final class Refusal {
     static void of(String what, Class<? extends RuntimeException> due, Supplier<SledgePost> scene, Act act) {
         SledgePost post = scene.get();
         Due.fails(what, due, () -> act.on(post));
-        String later = what + ", and nothing is changed";
-        // Each look is at an object of its own, so that none is used for more calls than the document allows.
-        Due.is(later, Posts.picture(scene.get()), Posts.picture(post));
-        Due.is(later, Posts.texts(scene.get()), Posts.texts(after(scene, act)));
-        Due.is(later, Posts.history(scene.get()), Posts.history(after(scene, act)));
-        Due.is(later, Posts.nextId(scene.get()), Posts.nextId(after(scene, act)));
+        Sentence.meanwhile(NO_TRACE, () -> leavesNoTrace(what, scene, act));
+    }
+
+    /** Each look is at an object of its own, so that none is used for more calls than the document allows. */
+    private static void leavesNoTrace(String what, Supplier<SledgePost> scene, Act act) {
+        Due.is(what + ", state", Posts.picture(scene.get()), Posts.picture(after(scene, act)));
+        Due.is(what + ", texts", Posts.texts(scene.get()), Posts.texts(after(scene, act)));
+        Due.is(what + ", changes", Posts.history(scene.get()), Posts.history(after(scene, act)));
+        Due.is(what + ", next id", Posts.nextId(scene.get()), Posts.nextId(after(scene, act)));
     }
 
     static void ofEach(String what, Class<? extends RuntimeException> due, Supplier<SledgePost> scene, int[] values,

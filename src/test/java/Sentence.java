@@ -30,12 +30,13 @@ final class Sentence {
     private static final Map<String, Set<String>> quoted = new TreeMap<>();
     private static final Set<String> tested = new TreeSet<>();
     private static int promise;
+    private static String about = "";
     private static int checksBefore;
 
     private Sentence() {
     }
 
-    /** Makes the tests one by one; one that ends with an exception is wrong and does not keep the others from being made. */
+    /** Makes the tests one by one; one that ends with an exception is wrong, and the others are made all the same. */
     static void each(Runnable... tests) {
         for (Runnable test : tests) {
             try {
@@ -56,24 +57,32 @@ final class Sentence {
         quote(TERMS, number, words);
     }
 
+    /** The check is about these words of the terms, for the same promise; later ones are again about what they were. */
+    static void meanwhile(String words, Runnable check) {
+        String before = about;
+        about(TERMS, promise, words);
+        check.run();
+        about = before;
+        Due.about(about);
+    }
+
     private static void quote(String section, int number, String words) {
         endLast();
-        promise = number;
-        Due.about("");
-        Due.is(section + " says: " + words, true, sentenceWith(section, words) != null);
-        quoted.computeIfAbsent(section, key -> new TreeSet<>()).add(words);
-        tested.add("Promise " + number);
-        Due.about("promise " + number + ", \"" + words + "\": ");
+        about(section, number, words);
         checksBefore = Due.checksSoFar();
+    }
+
+    private static void about(String section, int number, String words) {
+        promise = number;
+        about = "promise " + number + ", \"" + words + "\": ";
+        Due.about(about);
+        Due.is("stands under " + section, true, sentenceWith(section, words) != null);
+        quoted.computeIfAbsent(section, key -> new TreeSet<>()).add(words);
+        tested.add("Promise " + number + (words.equals(Refusal.NO_TRACE) ? " leaves no trace" : ""));
     }
 
     private static void endLast() {
         Due.is("there are checks", true, promise == 0 || Due.checksSoFar() > checksBefore);
-    }
-
-    /** The promise that the checks are about now. */
-    static int promise() {
-        return promise;
     }
 
     private static String sentenceWith(String section, String words) {
@@ -91,12 +100,15 @@ final class Sentence {
         Due.about("");
         int sentences = 0;
         for (Map.Entry<String, List<String>> section : DOCUMENT.entrySet()) {
-            Due.is(section.getKey() + " has tests", true, section.getKey().equals(TERMS) || tested.contains(section.getKey()));
+            String name = section.getKey();
+            Due.is(name + " has tests", true, name.equals(TERMS) || tested.contains(name));
             for (String sentence : section.getValue()) {
-                if (needsTest(section.getKey(), sentence)) {
+                if (needsTest(name, sentence)) {
                     sentences++;
-                    Due.is("a test for: " + section.getKey() + ": " + sentence, true, isQuoted(section.getKey(), sentence));
+                    Due.is("a test for: " + name + ": " + sentence, true, isQuoted(name, sentence));
                 }
+                boolean quiet = !sentence.startsWith("Throws") || tested.contains(name + " leaves no trace");
+                Due.is("refused calls of " + name + " are looked at", true, quiet);
             }
         }
         Due.is("the document was read", true, DOCUMENT.size() == 61 && sentences > 120);
