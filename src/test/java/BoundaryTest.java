@@ -13,7 +13,7 @@ public final class BoundaryTest {
         BoundariesOfTotals.run();
         BoundariesOfScripts.run();
         BoundariesOfUndo.run();
-        Sentence.end();
+        Sentence.endOfBoundaries();
         Due.end();
     }
 }

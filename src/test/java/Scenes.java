@@ -28,6 +28,37 @@ final class Scenes {
         return post;
     }
 
+    /**
+     * Six stations, the last one without roads, and numbers that all differ, so that one taken for
+     * another shows. After 4 hours it is 3 degrees, and the post has paid 10 coins: sledge 0 stands
+     * in 1 with the letter 1, sledge 1 travels to 2 with the letters 0 and 5 and has 6 hours left,
+     * sledge 2 stands in 3; the letters 2 and 4 wait in 1, and 3 in 3; 4 is open.
+     */
+    static SledgePost town() {
+        SledgePost post = Posts.withStations(6);
+        post.setRoad(0, 1, 4);
+        post.setRoad(1, 2, 6);
+        post.setRoad(2, 3, 2);
+        post.setRoad(0, 3, 9);
+        post.setRoad(3, 4, 7);
+        post.addSledge(1, 20);
+        post.addSledge(0, 13);
+        post.addSledge(3, 30);
+        post.post(0, 2, 3, 41, 17);
+        post.post(1, 3, 5, 60, 29);
+        post.post(1, 0, 8, 72, 53);
+        post.post(3, 4, 2, 15, 31);
+        post.post(1, 4, 6, 33, 8);
+        post.post(0, 3, 7, 25, 45);
+        post.load(0, 1);
+        post.load(1, 0);
+        post.load(1, 5);
+        post.send(1, 2);
+        post.setTemperature(3);
+        post.advance(4);
+        return post;
+    }
+
     static SledgePost fresh() {
         return new SledgePost();
     }

@@ -8,11 +8,12 @@ import java.util.Map;
 import java.util.Set;
 import java.util.TreeMap;
 import java.util.TreeSet;
+import java.util.function.BiPredicate;
 import java.util.regex.Pattern;
 
 /**
- * The sentences of DOC.md. A boundary test quotes the one that it is about, under the number of its
- * promise; what it finds wrong is printed with both. At the end no sentence may be left without a test.
+ * The sentences of DOC.md. A test of BoundaryTest or OrdinaryTest quotes the one that it is about, under the
+ * number of its promise; what it finds wrong is printed with both. At the end none may be left without a test.
  */
 final class Sentence {
     private static final String TERMS = "Terms";
@@ -95,18 +96,14 @@ final class Sentence {
     }
 
     /** Every sentence that names a boundary, every promise and all of the terms must have been quoted. */
-    static void end() {
+    static void endOfBoundaries() {
         endLast();
         Due.about("");
-        int sentences = 0;
+        int sentences = demandTests(Sentence::namesBoundary);
         for (Map.Entry<String, List<String>> section : DOCUMENT.entrySet()) {
             String name = section.getKey();
             Due.is(name + " has tests", true, name.equals(TERMS) || tested.contains(name));
             for (String sentence : section.getValue()) {
-                if (needsTest(name, sentence)) {
-                    sentences++;
-                    Due.is("a test for: " + name + ": " + sentence, true, isQuoted(name, sentence));
-                }
                 boolean quiet = !sentence.startsWith("Throws") || tested.contains(name + " leaves no trace");
                 Due.is("refused calls of " + name + " are looked at", true, quiet);
             }
@@ -114,7 +111,30 @@ final class Sentence {
         Due.is("the document was read", true, DOCUMENT.size() == 61 && sentences > 120);
     }
 
-    private static boolean needsTest(String section, String sentence) {
+    /** Every sentence of a promise that names no boundary must have been quoted. */
+    static void endOfOrdinary() {
+        endLast();
+        Due.about("");
+        int sentences = demandTests((name, sentence) -> !name.equals(TERMS) && !namesBoundary(name, sentence));
+        Due.is("the document was read", true, DOCUMENT.size() == 61 && sentences > 140);
+    }
+
+    /** Returns how many sentences were asked for. */
+    private static int demandTests(BiPredicate<String, String> asked) {
+        int sentences = 0;
+        for (Map.Entry<String, List<String>> section : DOCUMENT.entrySet()) {
+            for (String sentence : section.getValue()) {
+                if (asked.test(section.getKey(), sentence)) {
+                    sentences++;
+                    String what = "a test for: " + section.getKey() + ": " + sentence;
+                    Due.is(what, true, isQuoted(section.getKey(), sentence));
+                }
+            }
+        }
+        return sentences;
+    }
+
+    private static boolean namesBoundary(String section, String sentence) {
         if (section.equals(TERMS)) {
             return !WITHOUT_CASE.matcher(sentence).matches();
         }
